@@ -1539,13 +1539,10 @@ public final class WindSigned {
 
         /** How many steps the thing goes by a wind. */
         private int push(int direction, int force) {
-            if (cell == NONE || force <= weight) {
-                return 0;
-            }
-            if (setting.hasShelter(plain.cellBeside(cell, Setting.opposite(direction)))) {
-                return 0;
-            }
             int reach = reachOf(force, weight);
+            if (cell == NONE || reach == 0 || setting.keepsWindFrom(cell, direction)) {
+                return 0;
+            }
             int heading = direction;
             for (int gone = 0; gone < reach; gone++) {
                 int next = plain.cellBeside(cell, heading);
