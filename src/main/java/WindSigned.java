@@ -364,7 +364,8 @@ public final class WindSigned {
         int cell = placeOf(thing, day);
         int bits = 0;
         for (int direction = 0; direction < DIRECTIONS; direction++) {
-            if (cell != NONE && told.keepsWindFrom(cell, direction)) {
+            int windward = Setting.opposite(direction);
+            if (cell != NONE && told.hasShelter(plain.cellBeside(cell, windward))) {
                 bits |= 1 << direction;
             }
         }
@@ -1436,10 +1437,6 @@ public final class WindSigned {
             return cell >= 0 && cell < CELL_NUMBERS && sheltered[cell];
         }
 
-        boolean keepsWindFrom(int cell, int direction) {
-            return hasShelter(plain.cellBeside(cell, opposite(direction)));
-        }
-
         static int opposite(int direction) {
             return direction ^ 2;
         }
@@ -1540,7 +1537,10 @@ public final class WindSigned {
         /** How many steps the thing goes by a wind. */
         private int push(int direction, int force) {
             int reach = reachOf(force, weight);
-            if (cell == NONE || reach == 0 || setting.keepsWindFrom(cell, direction)) {
+            if (cell == NONE || reach == 0) {
+                return 0;
+            }
+            if (setting.hasShelter(plain.cellBeside(cell, Setting.opposite(direction)))) {
                 return 0;
             }
             int heading = direction;
