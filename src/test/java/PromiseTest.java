@@ -1,11 +1,5 @@
-import java.nio.charset.StandardCharsets;
-
 /** The promises of the document one by one, with answers worked out by hand. */
-public final class PromiseTest {
-    private static int asked = 0;
-    private static int wrong = 0;
-    private static int promise = 0;
-
+public final class PromiseTest extends Asking {
     /**
      * Where things lie, day 0 to 4. Thing 0: 11, 11, 3, 3, 3 (stopped at once in day 0 by the shelter in 21).
      * Thing 1: 40, 40, 31, 31, 31. Thing 2: 22, 42, 43, 43, 42 (in day 1 the shelter in 33 stops it at once).
@@ -54,56 +48,11 @@ public final class PromiseTest {
         slots();
         emptyPlain();
         noPlain();
-        System.out.println("PromiseTest: " + asked + " answers asked, " + wrong + " not as due");
-        if (wrong != 0) {
-            System.exit(1);
-        }
+        finish("PromiseTest");
     }
 
-    private static void due(long want, long got, String call) {
-        asked++;
-        if (got != want) {
-            wrong++;
-            System.out.println("promise " + promise + ": " + call + " answered " + got + ", due is " + want);
-        }
-    }
-
-    private static void due(long want, long got) {
-        due(want, got, "the " + (asked + 1) + ". answer asked");
-    }
-
-    /** A row of answers in the order of the calls. */
-    private static void due(long[] wanted, long... got) {
-        for (int i = 0; i < Math.max(wanted.length, got.length); i++) {
-            due(i < wanted.length ? wanted[i] : 0, i < got.length ? got[i] : -999, "answer " + i + " of a row");
-        }
-    }
-
-    private static long[] of(long... numbers) {
-        return numbers;
-    }
-
-    private static void feed(WindSigned w, String text) {
-        byte[] bytes = text.getBytes(StandardCharsets.ISO_8859_1);
-        int before = w.count(11);
-        for (int i = 0; i < bytes.length; i += 20) {
-            int[] n = new int[5];
-            for (int j = 0; j < 20; j++) {
-                n[j / 4] = n[j / 4] << 8 | (i + j < bytes.length ? bytes[i + j] & 255 : 0);
-            }
-            w.feed(n[0], n[1], n[2], n[3], n[4]);
-        }
-        w.end(before + bytes.length);
-    }
-
-    private static WindSigned told(String text) {
-        WindSigned w = new WindSigned();
-        feed(w, text);
-        if (w.plain() < 0) {
-            wrong++;
-            System.out.println("promise " + promise + ": fault " + w.fault(0) + " at " + w.fault(1) + " in " + text);
-        }
-        return w;
+    private static void promise(int number) {
+        says("promise " + number);
     }
 
     private static void fault(int kind, int place, String text) {
@@ -120,7 +69,7 @@ public final class PromiseTest {
     }
 
     private static void newObject() {
-        promise = 1;
+        promise(1);
         WindSigned w = new WindSigned();
         due(-1, WindSigned.NONE);
         for (int what = 0; what <= 12; what++) {
@@ -131,7 +80,7 @@ public final class PromiseTest {
     }
 
     private static void tape() {
-        promise = 2;
+        promise(2);
         WindSigned w = new WindSigned();
         for (int i = 1; i <= 35; i++) {
             due(20 * i, w.feed(0x20202020, 0x0a0a0a0a, 0x20202020, 0x20202020, 0x20202020), "feed");
@@ -146,14 +95,14 @@ public final class PromiseTest {
         due(of(1, 1, 0, 2, 3, 4), w.plain(), w.count(0), w.count(1), w.count(2), w.count(3), w.count(4));
         due(20, w.feed(0x706c6169, 0x6e2064ff, 0x80808080, -1, Integer.MIN_VALUE));
         due(of(-4, 1, 6), w.plain(), w.fault(0), w.fault(1));
-        promise = 3;
+        promise(3);
         due(of(-1, -1, 20, 13, 13, -1, 0), w.end(21), w.end(-1), w.end(20), w.end(13), w.end(13), w.end(14),
                 w.end(0));
         due(of(-1, -1, 0), w.end(1), w.end(Integer.MIN_VALUE), w.end(0));
     }
 
     private static void faultsOfTheFirstLine() {
-        promise = 5;
+        promise(5);
         fault(0, -1, "");
         fault(0, -1, " \n ");
         fault(0, -1, VALE);
@@ -182,7 +131,7 @@ public final class PromiseTest {
     }
 
     private static void faultsOfOtherLines() {
-        promise = 5;
+        promise(5);
         fault(1, 40, BARE + "houses 0 0;");
         fault(1, 40, BARE + "housez 0 0;");
         fault(1, 40, BARE + "mouse 0 0;");
@@ -204,7 +153,7 @@ public final class PromiseTest {
     }
 
     private static void faultsOfNumber() {
-        promise = 5;
+        promise(5);
         fault(2, 11, "plain days 0 law 2 odds 0 wide 2 high 9;");
         fault(2, 11, "plain days 15 law 2 odds 0 wide 2 high 9;");
         fault(2, 11, "plain days 99999999999999999999999 law 2 odds 0 wide 2 high 9;");
@@ -253,7 +202,7 @@ public final class PromiseTest {
     }
 
     private static void tellingAnew() {
-        promise = 4;
+        promise(4);
         WindSigned w = told(VALE);
         due(of(12, 0, 0, -1), w.count(10), w.count(11), w.fault(0), w.fault(1));
         w.blows(1, 40, 0);
@@ -271,15 +220,15 @@ public final class PromiseTest {
 
     private static void whatWasTold() {
         WindSigned w = told(VALE);
-        promise = 6;
+        promise(6);
         due(of(0, 43, -2, -2), w.house(0), w.house(1), w.house(2), w.house(-1));
-        promise = 7;
+        promise(7);
         due(of(21, 33, -2, -2), w.shelter(0), w.shelter(1), w.shelter(2), w.shelter(-1));
-        promise = 8;
+        promise(8);
         due(of(3, 11, 1), w.thing(0, 0), w.thing(0, 1), w.thing(0, 2));
         due(of(10, 40, 0), w.thing(1, 0), w.thing(1, 1), w.thing(1, 2));
         due(of(-2, -2, -2, -2), w.thing(3, 0), w.thing(-1, 0), w.thing(0, 3), w.thing(0, -1));
-        promise = 9;
+        promise(9);
         due(of(3, 20, 1), w.wind(2, 0), w.wind(2, 1), w.wind(2, 2));
         due(of(0, 2, 3), w.wind(3, 0), w.wind(3, 1), w.wind(3, 2));
         due(of(-2, -2, -2, -2), w.wind(4, 0), w.wind(-1, 0), w.wind(0, 3), w.wind(0, -1));
@@ -292,7 +241,7 @@ public final class PromiseTest {
     }
 
     private static void laws() {
-        promise = 10;
+        promise(10);
         // Four is not more than four; five to six a step, seven to nine two, ten to twelve three.
         int[] forces = {4, 5, 6, 7, 9, 10, 12, 13, 16, 19, 22, 25, 40};
         int[][] cells = {
@@ -367,40 +316,40 @@ public final class PromiseTest {
 
     private static void places() {
         WindSigned w = told(VALE);
-        promise = 10;
+        promise(10);
         due(of(11, 11, 3, 3, 3), w.at(0, 0), w.at(0, 1), w.at(0, 2), w.at(0, 3), w.at(0, 4));
         due(of(40, 40, 31, 31, 31), w.at(1, 0), w.at(1, 1), w.at(1, 2), w.at(1, 3), w.at(1, 4));
         due(of(22, 42, 43, 43, 42), w.at(2, 0), w.at(2, 1), w.at(2, 2), w.at(2, 3), w.at(2, 4));
         due(of(-2, -2, -2, -2), w.at(3, 0), w.at(-1, 0), w.at(0, 5), w.at(0, -1));
-        promise = 11;
+        promise(11);
         due(of(4, 2, 1, 0), w.here(42, 1), w.here(31, 2), w.here(3, 2), w.here(0, 0));
         due(of(-2, -2, -2, -2, -2, -2), w.here(50, 0), w.here(4, 0), w.here(-1, 0), w.here(11, 5), w.here(11, -1),
                 w.here(Integer.MAX_VALUE, 0));
-        promise = 12;
+        promise(12);
         due(of(4, 7, 0, 4, -2, -2), w.moved(0), w.moved(1), w.moved(2), w.moved(3), w.moved(4), w.moved(-1));
-        promise = 13;
+        promise(13);
         due(of(0, 3, 0, 0), w.steps(0, 0), w.steps(0, 1), w.steps(0, 2), w.steps(0, 3));
         due(of(2, 2, 1, 1), w.steps(1, 1), w.steps(2, 0), w.steps(2, 1), w.steps(2, 3));
         due(of(-2, -2, -2, -2), w.steps(3, 0), w.steps(-1, 0), w.steps(0, 4), w.steps(0, -1));
-        promise = 14;
+        promise(14);
         due(of(3, 2, 4, -2, -2), w.worn(0), w.worn(1), w.worn(2), w.worn(3), w.worn(-1));
-        promise = 15;
+        promise(15);
         due(of(1, 1, 0, -2, -2), w.received(0), w.received(1), w.received(2), w.received(3), w.received(-1));
         due(-1, told(NOOK).received(0));
-        promise = 16;
+        promise(16);
         due(of(0, 4, 7, 7, 7, -2, -2), w.signed(0), w.signed(1), w.signed(2), w.signed(3), w.signed(4), w.signed(5),
                 w.signed(-1));
-        promise = 17;
+        promise(17);
         due(of(2, 2, 1, -2, -2), w.waits(0), w.waits(1), w.waits(2), w.waits(3), w.waits(-1));
         // Back in the cell told it waits there again.
         w.brings(2, 22, 1);
         due(4, w.waits(2));
-        promise = 18;
+        promise(18);
         due(2, w.heir());
         w.anew();
         due(0, w.heir());
         due(-1, told(BARE).heir());
-        promise = 19;
+        promise(19);
         due(of(0, 0, -2, -2), w.gone(0), w.gone(4), w.gone(5), w.gone(-1));
         WindSigned away = told(VALE.replace("law 0", "law 1"));
         due(of(0, 4, 5, 5, 5), away.gone(0), away.gone(1), away.gone(2), away.gone(3), away.gone(4));
@@ -410,22 +359,22 @@ public final class PromiseTest {
     private static void houses() {
         WindSigned w = told(VALE);
         WindSigned away = told(VALE.replace("law 0", "law 1"));
-        promise = 20;
+        promise(20);
         due(of(0, 0, 1, 1, 1, 1), w.had(0, 0), w.had(0, 4), w.had(1, 0), w.had(1, 4), w.had(2, 0), w.had(2, 4));
         due(of(-2, -2, -2, -2, -1), w.had(3, 0), w.had(-1, 0), w.had(0, 5), w.had(0, -1), away.had(0, 2));
         // As near to both: the first.
         due(of(1, 0), told(LANE).had(0, 1), told(LANE).had(0, 0));
-        promise = 21;
+        promise(21);
         due(of(1, 6, 1, 6), w.has(0, 0), w.has(1, 0), w.has(0, 4), w.has(1, 4));
         due(of(0, 2), away.has(0, 4), away.has(1, 4));
         due(of(-2, -2, -2, -2), w.has(2, 0), w.has(-1, 0), w.has(0, 5), w.has(0, -1));
-        promise = 22;
+        promise(22);
         due(of(4, 4, 0, 0, 1), w.right(0), w.right(4), away.right(1), told(LANE).right(0), told(LANE).right(1));
         due(of(-2, -2), w.right(5), w.right(-1));
-        promise = 23;
+        promise(23);
         due(of(1, 1, 0, -2, -2), w.rich(0), w.rich(4), told(LANE).rich(0), w.rich(5), w.rich(-1));
         due(of(-1, -2, 0), told(BARE).rich(3), told(BARE).rich(4), told(BARE + "house 0 0;house 1 0;").rich(0));
-        promise = 24;
+        promise(24);
         due(of(-1, -1, 0, 1), w.home(0), w.home(1), w.home(2), told(LANE).home(0));
         due(of(-2, -2), w.home(3), w.home(-1));
     }
@@ -433,23 +382,23 @@ public final class PromiseTest {
     private static void together() {
         WindSigned w = told(VALE);
         WindSigned away = told(VALE.replace("law 0", "law 1"));
-        promise = 25;
+        promise(25);
         due(of(3, 2, 3, 0, -2, -2), w.far(0), w.far(1), w.far(2), told(NOOK).far(0), w.far(3), w.far(-1));
         due(of(0, 2), away.far(2), away.far(1));
         w.brings(1, 3, 3);
         due(7, w.far(1));
         w.undo();
-        promise = 26;
+        promise(26);
         due(of(4, 2, 0, -1), w.apart(0, 1, 0), w.apart(1, 2, 1), w.apart(0, 0, 3), away.apart(2, 2, 4));
         due(of(-2, -2, -2, -2), w.apart(3, 0, 0), w.apart(0, 3, 0), w.apart(0, 1, 5), w.apart(0, -1, 0));
         due(of(-1, -1), away.apart(0, 1, 4), away.apart(1, 0, 4));
-        promise = 27;
+        promise(27);
         due(of(-1, 0, -2, -2), w.meet(0, 1), w.meet(1, 1), w.meet(3, 0), w.meet(0, -1));
         w.brings(1, 42, 0);
         due(of(1, 1), w.meet(1, 2), w.meet(2, 1));
         // Those that are gone lie in no cell.
         due(-1, away.meet(0, 2));
-        promise = 28;
+        promise(28);
         due(of(1, 2, 2, -2, -2), w.heap(0), w.heap(1), w.heap(1), w.heap(5), w.heap(-1));
         due(of(1, 0), away.heap(4), told(BARE).heap(0));
         WindSigned many = told("plain days 1 law 0 odds 0 wide 3 high 3;house 0 0;" + "thing weighs 0 at 1 0 for 0;".repeat(6));
@@ -458,19 +407,19 @@ public final class PromiseTest {
         // They meet in the last day.
         WindSigned late = told(LANE + "thing weighs 9 at 2 0 for 0;");
         due(of(1, -1), late.meet(0, 1), told(LANE + "thing weighs 9 at 0 0 for 0;").meet(0, 1));
-        promise = 29;
+        promise(29);
         w.brings(0, 21, 2);
         w.brings(2, 33, 2);
         due(of(0, 0, 5), w.under(0), w.under(2), w.under(3));
         due(of(-2, -2), w.under(5), w.under(-1));
         w.anew();
-        promise = 30;
+        promise(30);
         due(of(2, 6, 5, -2, -2, 0), w.edge(0), w.edge(1), w.edge(2), w.edge(5), w.edge(-1), away.edge(4));
-        promise = 31;
+        promise(31);
         due(of(0, 1, 1, -2, -2), w.mostly(0), w.mostly(1), w.mostly(2), w.mostly(3), w.mostly(-1));
         due(of(0, 0), told(LANE).mostly(0), away.mostly(0));
         due(of(0, 1), told(LANE).mostly(0), told(LANE.replace("days 1", "days 2")).mostly(0));
-        promise = 32;
+        promise(32);
         due(of(8, 4, 2, 2, 0, 0), w.lee(0, 0), w.lee(2, 0), w.lee(1, 2), w.lee(2, 2), w.lee(0, 4), away.lee(0, 4));
         due(of(7, 7), told(NOOK).lee(0, 0), told(NOOK).lee(0, 2));
         due(of(-2, -2, -2, -2), w.lee(3, 0), w.lee(-1, 0), w.lee(0, 5), w.lee(0, -1));
@@ -478,39 +427,39 @@ public final class PromiseTest {
 
     private static void winds() {
         WindSigned w = told(VALE);
-        promise = 33;
+        promise(33);
         due(of(4, 7, 0), w.lulls(), told(BARE).lulls(), told(NOOK).lulls());
-        promise = 34;
+        promise(34);
         due(of(1, 3, 0), w.lull(), told(BARE).lull(), told(NOOK).lull());
         WindSigned calm = told("plain days 9 law 0 odds 5 wide 2 high 2;wind 0 1 at 2;wind 0 1 at 12;wind 0 1 at 7;");
         due(of(0x17b, 4), calm.lulls(), calm.lull());
-        promise = 35;
+        promise(35);
         due(of(9, 20, 0, 2, -2, -2), w.force(0), w.force(1), w.force(2), w.force(3), w.force(4), w.force(-1));
-        promise = 36;
+        promise(36);
         due(of(1, -1, 0, -1), w.gale(), told(BARE).gale(), told(LANE).gale(), told(NOOK).gale());
-        promise = 37;
+        promise(37);
         due(of(6, 6, 11, -2, -2), w.movers(0), w.movers(1), w.movers(2), w.movers(3), w.movers(-1));
-        promise = 38;
+        promise(38);
         due(of(4, 7, 3, 4, -2, -2), w.moves(0), w.moves(1), w.moves(2), w.moves(3), w.moves(4), w.moves(-1));
-        promise = 39;
+        promise(39);
         due(of(0, 3, 7), w.idle(), told(NOOK).idle(), calm.idle());
-        promise = 40;
+        promise(40);
         due(of(7, 1, 2, 0), w.strewn(), told(NOOK).strewn(), told(LANE).strewn(), told(BARE).strewn());
         due(2, told(LANE.replace("at 1 0 for", "at 0 0 for")).strewn());
         // Winds of acts blow and move, but none of them is a wind told.
         w.blows(1, 40, 2);
-        promise = 33;
+        promise(33);
         due(of(0, 0, 40), w.lulls(), w.lull(), w.force(2));
-        promise = 37;
+        promise(37);
         due(of(6, 6, 11, -2), w.movers(0), w.movers(1), w.movers(2), w.moves(4));
     }
 
     private static void keeping() {
         WindSigned w = told(VALE);
-        promise = 41;
+        promise(41);
         due(of(1, 2, 1, 0), w.keep(0), w.keep(1), w.keep(2), told(NOOK).keep(0));
         due(of(-2, -2), w.keep(3), w.keep(-1));
-        promise = 42;
+        promise(42);
         due(of(1, 12, 2, 0), w.keeps(0), w.keeps(1), w.keeps(2), told(NOOK).keeps(0));
         due(of(-2, -2), w.keeps(3), w.keeps(-1));
         // Where a shelter is told, and beyond the edge, none is built: one cell is left.
@@ -533,12 +482,12 @@ public final class PromiseTest {
 
     private static void blowing() {
         WindSigned w = told(VALE);
-        promise = 43;
+        promise(43);
         due(of(4, 1, -1), w.blow(0, 1, 3, 1), w.blow(0, 0, 3, 1), w.blow(0, 1, 0, 2));
         due(of(-2, -2, -2), w.blow(3, 0, 0, 0), w.blow(0, 2, 0, 0), w.blow(0, 1, 4, 0));
         due(of(-2, -2, -2, -2), w.blow(0, 1, 0, 4), w.blow(0, 1, 0, -1), w.blow(-1, 0, 0, 0), w.blow(0, -1, 0, 0));
         due(of(-2, 0), w.blow(0, 0, -1, 0), w.count(9));
-        promise = 44;
+        promise(44);
         due(of(11, 0, -2, -2, -2), w.bring(0, 1), w.bring(0, 0), w.bring(3, 0), w.bring(0, 2), w.bring(-1, 0));
         // The wind comes behind all others of the day, and ahead of what is brought back.
         w.brings(0, 3, 3);
@@ -558,32 +507,20 @@ public final class PromiseTest {
     }
 
     private static void blaming() {
-        promise = 45;
+        promise(45);
         due(of(2, -1, -1), told(VALE).blame(), told(NOOK).blame(), told(BARE).blame());
         due(of(-1, 0), told(LANE).blame(), told(LANE.replace("for 1", "for 0")).blame());
         // Winds of acts stay: here one takes thing 0 back to where the wind had taken it.
         WindSigned w = told(VALE);
         w.blows(3, 4, 2);
         due(-1, w.blame());
-        promise = 46;
+        promise(46);
         due(of(0, -1, -1), told(VALE).burden(), told(NOOK).burden(), told(BARE).burden());
         due(of(0, 1), told(LANE + "shelter 0 0;").burden(), told(LANE + "shelter 2 1;shelter 0 0;").burden());
     }
 
-    private static void row(WindSigned w, int slot, int width, long... numbers) {
-        due(0, w.row(slot, width, numbers.length));
-        for (int i = 0; i < numbers.length; i++) {
-            due(0, w.write(slot, i, numbers[i]));
-        }
-    }
-
-    private static long[] guesses(WindSigned w, int slot, int thing) {
-        return of(w.weights(slot, thing), w.least(slot, thing), w.greatest(slot, thing), w.ask(slot, thing),
-                w.leaves(slot, thing), w.laws(slot, thing));
-    }
-
     private static void guessing() {
-        promise = 47;
+        promise(47);
         WindSigned w = told(VALE);
         row(w, 0, 0, 2, 31);
         due(of(2, 10, 11, -1, 2, 15), guesses(w, 0, 1));
@@ -606,7 +543,7 @@ public final class PromiseTest {
         due(of(1, 0, 0, -1, 1, 0), guesses(ends, 0, 0));
         row(ends, 0, 0, 2, 10);
         due(of(1, 30, 30, -1, 1, 0), guesses(ends, 0, 1));
-        promise = 52;
+        promise(52);
         row(w, 3, 0, 1, 42);
         due(1, w.laws(3, 2));
         row(w, 3, 0, 1, -1);
@@ -626,16 +563,16 @@ public final class PromiseTest {
 
     private static void guessingWrongly() {
         WindSigned w = told(VALE);
-        for (promise = 47; promise <= 52; promise++) {
-            long[] refused = of(guess(w, 0, 0), guess(w, 0, 3), guess(w, 4, 0), guess(w, -1, 0), guess(w, 0, -1));
-            due(of(-6, -2, -2, -2, -2), refused);
+        promise(47);
+        due(of(-6, -6, -6, -6, -6, -6), guesses(w, 0, 0));
+        int[][] unknown = {{0, 3}, {4, 0}, {-1, 0}, {0, -1}};
+        for (int[] one : unknown) {
+            due(of(-2, -2, -2, -2, -2, -2), guesses(w, one[0], one[1]));
         }
         long[][] rows = {{1}, {5, 11}, {-1, 11}, {0, 50}, {0, 4}, {0, -2}, {0, 11, 1}, {0, 11, 1, 99}, {0, 100}};
         for (long[] row : rows) {
             row(w, 1, 3, row);
-            for (promise = 47; promise <= 52; promise++) {
-                due(-2, guess(w, 1, 0));
-            }
+            due(of(-2, -2, -2, -2, -2, -2), guesses(w, 1, 0));
         }
         row(w, 1, 3, 1L << 32, 11);
         due(-2, w.weights(1, 0));
@@ -645,39 +582,22 @@ public final class PromiseTest {
         due(31, w.weights(1, 0));
     }
 
-    private static int guess(WindSigned w, int slot, int thing) {
-        switch (promise) {
-            case 47:
-                return w.weights(slot, thing);
-            case 48:
-                return w.least(slot, thing);
-            case 49:
-                return w.greatest(slot, thing);
-            case 50:
-                return w.ask(slot, thing);
-            case 51:
-                return w.leaves(slot, thing);
-            default:
-                return w.laws(slot, thing);
-        }
-    }
-
     private static void byLaws() {
         WindSigned w = told(VALE);
-        promise = 53;
+        promise(53);
         due(of(4, 0, 4, 4, -2, -2), w.by(0), w.by(1), w.by(2), w.by(3), w.by(4), w.by(-1));
         due(4, w.right(4));
-        promise = 54;
+        promise(54);
         due(of(1, 0, 0), w.law(), told(NOOK).law(), told(BARE).law());
     }
 
     private static void shares() {
         WindSigned w = told(NOOK);
-        promise = 55;
+        promise(55);
         due(of(0, 0, 0, 1, 0, 1, 0, 1), w.worth(0), w.worth(1), w.worth(2), w.worth(3), w.worth(4), w.worth(5),
                 w.worth(6), w.worth(7));
         due(of(-2, -2, 0, -2), w.worth(8), w.worth(-1), told(BARE).worth(0), told(BARE).worth(1));
-        promise = 56;
+        promise(56);
         due(of(2, 3, 1, 6, 1, 6), w.share(0, 0), w.share(0, 1), w.share(1, 0), w.share(1, 1), w.share(2, 0),
                 w.share(2, 1));
         due(of(0, 1), told(VALE).share(0, 0), told(VALE).share(0, 1));
@@ -692,13 +612,13 @@ public final class PromiseTest {
 
     private static void game() {
         WindSigned w = told(LANE);
-        promise = 57;
+        promise(57);
         due(of(2, 4, -2, -2, -2, -2), w.rests(0, 1), w.rests(1, 0), w.rests(0, 0), w.rests(0, 2), w.rests(2, 0),
                 w.rests(-1, 0));
         due(1, told(VALE).rests(0, 1));
         // With nothing to have nobody builds.
         due(of(1, 1), told(BARE + "house 0 0;house 1 0;").rests(0, 1), told(BARE + "house 0 0;house 1 0;").rests(1, 0));
-        promise = 58;
+        promise(58);
         due(of(0, 2, 5, 2), w.gets(0, 1, 0, 0), w.gets(0, 1, 1, 0), w.gets(0, 1, 0, 1), w.gets(0, 1, 1, 1));
         due(of(5, -3, 0, -3), w.gets(1, 0, 0, 0), w.gets(1, 0, 1, 0), w.gets(1, 0, 0, 1), w.gets(1, 0, 1, 1));
         due(of(-1000, -1000, -1000), w.gets(0, 0, 0, 0), w.gets(0, 2, 0, 0), w.gets(-1, 0, 0, 0));
@@ -713,12 +633,12 @@ public final class PromiseTest {
 
     private static void chances() {
         WindSigned w = told(VALE);
-        promise = 59;
+        promise(59);
         due(of(1, 2, 3, 4), w.chance(0, 0), w.chance(0, 1), w.chance(1, 0), w.chance(1, 1));
         due(of(0, 1), told(NOOK).chance(0, 0), told(NOOK).chance(0, 1));
         due(of(1, 1), told(LANE).chance(0, 0), told(LANE).chance(0, 1));
         due(of(-2, -2, -2, -2), w.chance(3, 0), w.chance(-1, 0), w.chance(0, 2), w.chance(0, -1));
-        promise = 60;
+        promise(60);
         due(of(5, 4, 7, 4), w.mean(0, 0), w.mean(0, 1), w.mean(1, 0), w.mean(1, 1));
         due(of(0, 1, 1, 1), told(NOOK).mean(0, 0), told(NOOK).mean(0, 1), told(LANE).mean(0, 0), told(LANE).mean(0, 1));
         due(of(-2, -2, -2, -2), w.mean(3, 0), w.mean(-1, 0), w.mean(0, 2), w.mean(0, -1));
@@ -737,7 +657,7 @@ public final class PromiseTest {
 
     private static void acts() {
         WindSigned w = told(VALE);
-        promise = 61;
+        promise(61);
         // Things that winds of the day move then, those told as well.
         due(of(4, 40, 1), w.blows(2, 1, 0), w.at(1, 1), w.count(9));
         due(of(3, 5, 23, 31), w.blows(1, 40, 1), w.steps(0, 1), w.at(0, 2), w.at(1, 2));
@@ -748,7 +668,7 @@ public final class PromiseTest {
         due(of(0, 1, 1), w.blows(1, 3, 2) & 1, w.blows(1, 4, 2) & 1, w.blows(0, 4, 2) & 1);
         due(of(3, 12, 2), w.count(9), w.at(0, 3), w.steps(0, 2));
         w.anew();
-        promise = 62;
+        promise(62);
         // Brought back behind the winds of the day, the latest of several counts.
         due(of(43, 3, 43), w.brings(0, 43, 3), w.at(0, 3), w.at(0, 4));
         due(of(0, 0, 1), w.brings(0, 0, 3), w.steps(0, 3), w.received(0));
@@ -761,18 +681,18 @@ public final class PromiseTest {
         // By what is brought back nothing is received.
         WindSigned still = told(NOOK);
         due(of(1, -1, 0), still.brings(0, 1, 1), still.received(0), still.worn(0));
-        promise = 63;
+        promise(63);
         due(of(1, 0, -5, -1), away.undo(), away.undo(), away.undo(), away.at(0, 4));
-        promise = 64;
+        promise(64);
         due(of(4, 0, 3, 31), w.anew(), w.anew(), w.at(0, 4), w.at(1, 4));
     }
 
     private static void actsRefused() {
         WindSigned w = told(VALE);
-        promise = 61;
+        promise(61);
         due(of(-2, -2, -2, -2), w.blows(4, 1, 0), w.blows(-1, 1, 0), w.blows(0, 0, 0), w.blows(0, 41, 0));
         due(of(-2, -2, 0), w.blows(0, 1, 4), w.blows(0, 1, -1), w.count(9));
-        promise = 62;
+        promise(62);
         due(of(-2, -2, -2, -2), w.brings(3, 0, 0), w.brings(-1, 0, 0), w.brings(0, 50, 0), w.brings(0, 4, 0));
         due(of(-2, -2, -2, 0), w.brings(0, -1, 0), w.brings(0, 0, 4), w.brings(0, 0, -1), w.count(9));
         for (int i = 0; i < 15; i++) {
@@ -781,21 +701,21 @@ public final class PromiseTest {
         }
         due(of(-5, -5, 30), w.blows(0, 1, 0), w.brings(0, 11, 0), w.count(9));
         due(of(-2, -2), w.blows(4, 1, 0), w.brings(0, 50, 0));
-        promise = 63;
+        promise(63);
         due(of(29, 4, -5), w.undo(), w.blows(0, 1, 0), w.blows(0, 1, 0));
-        promise = 64;
+        promise(64);
         due(of(30, 0, -5), w.anew(), w.anew(), w.undo());
     }
 
     private static void years() {
         WindSigned w = told(VALE);
-        promise = 65;
+        promise(65);
         due(of(1, 15, 9, 2, 7), w.drawn(0, 0), w.drawn(8, 0), w.drawn(7, 0), w.drawn(16, 0), w.drawn(2000000000, 0));
         due(of(4, 7, 4, 3), w.drawn(0, 1), w.drawn(8, 1), w.drawn(7, 1), w.drawn(16, 1));
         due(of(-2, -2, -2, -2), w.drawn(-1, 0), w.drawn(2000000001, 0), w.drawn(0, 2), w.drawn(0, -1));
         due(of(0, 0, 1), told(BARE).drawn(0, 0), told(BARE).drawn(0, 1), told(LANE).drawn(5, 0));
         due(0, told(VALE.replace("odds 5", "odds 0")).drawn(0, 0));
-        promise = 66;
+        promise(66);
         due(of(14, 0, 1, 2), w.luck(0, 20, 1), w.luck(0, 1, 1), w.luck(1, 1, 1), w.luck(2000000000, 2, 0));
         due(of(-2, -2, -2, -2), w.luck(0, 0, 0), w.luck(0, 21, 0), w.luck(0, 1, 3), w.luck(0, 1, -1));
         due(of(-2, -2), w.luck(-1, 1, 0), w.luck(2000000001, 1, 0));
@@ -806,14 +726,14 @@ public final class PromiseTest {
 
     private static void ratesAndCounts() {
         WindSigned w = told(VALE);
-        promise = 67;
+        promise(67);
         due(of(3, 12, 12, -1), w.rate(0, 12), w.thing(0, 0), w.rate(0, 12), w.received(0));
         due(of(11, 12, 3, 3), w.at(0, 4) , w.rate(0, 3), w.at(0, 4), w.rate(0, 3));
         due(of(-2, -2, -2, -2), w.rate(0, 31), w.rate(0, -1), w.rate(3, 0), w.rate(-1, 0));
         w.blows(0, 1, 0);
         due(of(-5, -2, 3), w.rate(0, 0), w.rate(0, 31), w.thing(0, 0));
         due(of(0, 3, 30, 0), w.undo(), w.rate(0, 30), w.rate(0, 0), w.thing(0, 0));
-        promise = 68;
+        promise(68);
         w.blows(0, 1, 0);
         w.row(2, 0, 0);
         w.feed(0, 0, 0, 0, 0);
@@ -827,12 +747,12 @@ public final class PromiseTest {
 
     private static void images() {
         WindSigned w = told(VALE);
-        promise = 69;
+        promise(69);
         due(of(-2, -2, 0), w.image(3), w.image(-1), w.image(0));
         w.rate(1, 5);
         w.blows(1, 40, 2);
         due(0, w.image(1));
-        promise = 70;
+        promise(70);
         due(of(-2, -2, -6), w.back(3), w.back(-1), w.back(2));
         w.anew();
         w.rate(1, 6);
@@ -851,7 +771,7 @@ public final class PromiseTest {
 
     private static void slots() {
         WindSigned w = told(VALE);
-        promise = 71;
+        promise(71);
         due(of(-2, -2, -2, -2, -2), w.row(4, 0, 1), w.row(-1, 0, 1), w.row(0, 4, 1), w.row(0, -1, 1), w.row(0, 0, 61));
         due(of(-3, -2, 0), w.row(0, 0, -1), w.row(4, 0, -1), w.count(12));
         due(of(0, 0, 2), w.row(0, 0, 60), w.row(3, 3, 0), w.count(12));
@@ -862,7 +782,7 @@ public final class PromiseTest {
         due(0, w.weights(0, 0));
         w.write(0, 1, 11);
         due(of(31, 0, 0), w.weights(0, 0), w.row(0, 0, 2), w.weights(0, 0));
-        promise = 72;
+        promise(72);
         due(of(-2, -2, -6, -7, -7), w.write(4, 0, 0), w.write(-1, 0, 0), w.write(1, 0, 0), w.write(0, 2, 0),
                 w.write(0, -1, 0));
         for (int width = 0; width < 4; width++) {
@@ -875,7 +795,7 @@ public final class PromiseTest {
             due(0, w.write(2, 1, width == 3 ? 11L + (1L << 40) : 11 + (1L << ((8 << width) - 1))));
             due(-2, w.weights(2, 0), "weights by a number too great, of width " + width);
         }
-        promise = 73;
+        promise(73);
         due(of(-2, -2, -2), w.paste(4, 0, 0, 0, 0), w.paste(0, 0, 4, 0, 0), w.paste(-1, 0, 0, 0, 0));
         due(of(-6, -6, -6), w.paste(1, 0, 0, 0, 0), w.paste(0, 0, 1, 0, 0), w.paste(1, 0, 1, -1, 0));
         due(of(-8, -8), w.paste(0, 0, 2, 0, 1), w.paste(2, -1, 0, 0, 1));
@@ -895,7 +815,7 @@ public final class PromiseTest {
     }
 
     private static void emptyPlain() {
-        promise = 4;
+        promise(4);
         WindSigned w = told(BARE);
         due(of(0, 0, 0, 0, 0, 0), w.here(0, 0), w.moved(0), w.signed(3), w.gone(3), w.right(0), w.heap(1));
         due(of(0, 0, -1, -1, 0, 0, -1, -1), w.under(0), w.edge(0), w.gale(), w.heir(), w.idle(), w.strewn(), w.blame(),
@@ -907,25 +827,25 @@ public final class PromiseTest {
     private static void noPlain() {
         WindSigned w = new WindSigned();
         w.row(0, 0, 2);
-        promise = 6;
+        promise(6);
         due(of(-2, -2, -2, -2), w.house(0), w.shelter(0), w.thing(0, 0), w.wind(0, 0));
-        promise = 10;
+        promise(10);
         due(of(-2, -2, -2, -2, -2), w.at(0, 0), w.here(0, 0), w.moved(0), w.steps(0, 0), w.worn(0));
         due(of(-2, -2, -2, -2, -2), w.received(0), w.signed(0), w.waits(0), w.heir(), w.gone(0));
-        promise = 20;
+        promise(20);
         due(of(-2, -2, -2, -2, -2), w.had(0, 0), w.has(0, 0), w.right(0), w.rich(0), w.home(0));
-        promise = 25;
+        promise(25);
         due(of(-2, -2, -2, -2, -2), w.far(0), w.apart(0, 0, 0), w.meet(0, 0), w.heap(0), w.under(0));
-        promise = 30;
+        promise(30);
         due(of(-2, -2, -2, -2, -2), w.edge(0), w.mostly(0), w.lee(0, 0), w.lulls(), w.lull());
         due(of(-2, -2, -2, -2, -2, -2), w.force(0), w.gale(), w.movers(0), w.moves(0), w.idle(), w.strewn());
-        promise = 41;
+        promise(41);
         due(of(-2, -2, -2, -2, -2, -2), w.keep(0), w.keeps(0), w.blow(0, 0, 0, 0), w.bring(0, 0), w.blame(), w.burden());
         due(of(-2, -2, -2, -2, -2, -2), guesses(w, 0, 0));
         due(of(-2, -2, -2, -2, -2, -2), guesses(w, 1, 0));
         due(of(-2, -2, -2, -1000), w.by(0), w.law(), w.worth(0), w.share(0, 0));
         due(of(-2, -1000, -2, -2), w.rests(0, 1), w.gets(0, 1, 0, 0), w.chance(0, 0), w.mean(0, 0));
-        promise = 61;
+        promise(61);
         due(of(-2, -2, -2, -2), w.blows(0, 1, 0), w.brings(0, 0, 0), w.undo(), w.anew());
         due(of(-2, -2, -2, 0, 0), w.drawn(0, 0), w.luck(0, 1, 0), w.rate(0, 0), w.image(0), w.back(0));
     }
