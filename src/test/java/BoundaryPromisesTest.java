@@ -178,7 +178,10 @@ public final class BoundaryPromisesTest extends Asking {
             w.row(0, 0, 0);
             feed(w, blanks);
             due(of(0, 0, -1, 0, 0), w.plain(), w.fault(0), w.fault(1), w.count(10), w.count(11));
-            due(of(-2, -2, -2, -2, 0, 1), w.heir(), w.at(0, 0), w.undo(), w.house(0), w.count(3), w.count(12));
+            due(of(-2, -2, -2, -2, 1), w.heir(), w.at(0, 0), w.undo(), w.house(0), w.count(12));
+            for (int what = 0; what < 12; what++) {
+                due(0, w.count(what), "count(" + what + ") without a plain");
+            }
         }
         due(of(1, 6, 12, 30), lines(BARE), lines(SMALL), lines(VALE), lines(FULL));
         promise(4, "-4: a FAULT (all stays)");
@@ -478,6 +481,9 @@ public final class BoundaryPromisesTest extends Asking {
         due(of(0, -1), away.had(0, 0), away.had(0, 1));
         promise(26, "NONE: one is GONE");
         due(of(0, -1), away.apart(0, 0, 0), away.apart(0, 0, 1));
+        WindSigned oneGone = told(SMALL.replace("wind 0 1", "wind 3 1") + "thing weighs 9 at 1 1 for 0;");
+        due(of(1, 1, -1, -1, 0), oneGone.apart(0, 1, 0), oneGone.apart(1, 0, 0), oneGone.apart(0, 1, 1),
+                oneGone.apart(1, 0, 1), oneGone.apart(1, 1, 1));
         promise(32, "GONE: 0");
         due(of(0, 0), away.lee(0, 0), away.lee(0, 1));
         due(of(8, 0), told(SMALL.replace("shelter 1 0", "shelter 1 1").replace("wind 0 1", "wind 2 1")).lee(0, 0),
@@ -642,6 +648,23 @@ public final class BoundaryPromisesTest extends Asking {
     }
 
     private static void lulls() {
+        promise(32, "bit D: a SHELTER keeps a WIND of DIRECTION D from it");
+        String calm = "plain days 1 law 2 odds 0 wide 3 high 3;house 0 0;thing weighs 0 at 1 1 for 0;"
+                + "thing weighs 0 at 0 0 for 0;thing weighs 0 at 2 2 for 0;";
+        int[] comesFrom = {12, 1, 10, 21};
+        for (int set = 0; set < 16; set++) {
+            StringBuilder beside = new StringBuilder(calm);
+            for (int d = 0; d < 4; d++) {
+                if ((set >> d & 1) != 0) {
+                    beside.append("shelter ").append(comesFrom[d] / 10).append(' ').append(comesFrom[d] % 10).append(';');
+                }
+            }
+            // In the corners beyond the edge there is none, though by law 2 the other edge is next.
+            WindSigned sheltered = told(beside.toString());
+            due(of(set, (set >> 1 & 1) | (set >> 2 & 1) << 3, (set & 1) << 1 | (set >> 3 & 1) << 2), sheltered.lee(0, 1),
+                    sheltered.lee(1, 0), sheltered.lee(2, 0));
+        }
+        due(0, told(calm + "shelter 1 1;shelter 0 2;shelter 2 0;").lee(0, 0));
         promise(33, "DAYS ahead of the last in which no WIND blows, as bits");
         for (int n : new int[] {1, 2, 13, 14}) {
             String head = "plain days " + n + " law 0 odds 0 wide 2 high 2;";
@@ -680,6 +703,15 @@ public final class BoundaryPromisesTest extends Asking {
             // As near to both of them the first has it, if the wind does not move it.
             due(weight > 0 ? 1 : -1, told(head + "thing weighs " + weight + " at 4 0 for 0;").blow(0, 0, 0, 1));
         }
+        promise(44, "the DAY and the DIRECTION (10 times and) with which it is least");
+        // In day 0 it is sheltered; a wind of day 1 takes it down, out of the lee, and three steps are wanted then.
+        WindSigned late = told("plain days 3 law 0 odds 0 wide 9 high 2;house 0 0;house 8 0;shelter 1 0;"
+                + "thing weighs 5 at 2 0 for 0;wind 2 6 at 1;");
+        due(of(11, -1, 11, 11), late.bring(0, 1), late.blow(0, 1, 0, 1), late.blow(0, 1, 1, 1), late.blow(0, 1, 2, 1));
+        // The last day ahead of the last, down: in others it is sheltered from that.
+        late = told("plain days 3 law 0 odds 0 wide 9 high 9;house 0 0;house 0 8;shelter 0 3;"
+                + "thing weighs 5 at 0 4 for 0;wind 1 6 at 2;");
+        due(of(22, 6, -1, -1), late.bring(0, 1), late.blow(0, 1, 2, 2), late.blow(0, 1, 1, 2), late.blow(0, 1, 0, 1));
         promise(45, "the WIND told without which most THINGS are RIGHT, if more than now");
         String lane = head + "thing weighs 0 at 4 0 for 0;";
         due(of(0, -1, -1), told(lane + "wind 1 1 at 0;").blame(), told(lane + "wind 3 1 at 0;").blame(),
@@ -715,6 +747,15 @@ public final class BoundaryPromisesTest extends Asking {
         due(of(7, 4, 5), w.weights(0, 1), w.ask(0, 1), w.leaves(0, 1));
         row(w, 0, 0, 0, 0);
         due(of(0, -1, 0), w.weights(0, 1), w.ask(0, 1), w.leaves(0, 1));
+        promise(49, "the greatest, the least: one weight alone, 0 or 30");
+        WindSigned ends = told("plain days 1 law 0 odds 0 wide 9 high 2;house 0 0;thing weighs 9 at 0 0 for 0;wind 1 1 at 0;");
+        row(ends, 0, 0, 1, 10);
+        due(of(1, 0, 0, -1, 1, 0), guesses(ends, 0, 0));
+        row(ends, 0, 0, 1, 0);
+        due(of(30, 1, 30, -1, 30, 15), guesses(ends, 0, 0));
+        ends = told("plain days 1 law 0 odds 0 wide 9 high 2;house 0 0;thing weighs 9 at 0 0 for 0;wind 1 30 at 0;");
+        row(ends, 0, 0, 1, 0);
+        due(of(1, 30, 30, -1, 1, 0), guesses(ends, 0, 0));
         promise(52, "by which a THING, as told, lay so");
         // On its first day it lay where told by all laws, elsewhere by none.
         row(w, 0, 0, 0, 40);
@@ -933,6 +974,13 @@ public final class BoundaryPromisesTest extends Asking {
                     due(n % 2 == 1 ? -2 : n == 0 ? 31 : 0, w.weights(slot, 0), "weights by " + n + " numbers");
                 }
             }
+        }
+        // All 0, whatever was there: on day 0 the thing lay in cell 0, and not in another one on any day.
+        WindSigned zero = told("plain days 1 law 0 odds 5 wide 9 high 2;house 0 0;thing weighs 9 at 0 0 for 0;"
+                + "wind 1 40 at 0;");
+        for (int width = 0; width < 4; width++) {
+            row(zero, 0, 3 - width, -1, -1, -1, -1);
+            due(of(-2, 0, 31, 15), zero.weights(0, 0), zero.row(0, width, 60), zero.weights(0, 0), zero.laws(0, 0));
         }
         promise(71, "-2: there is no such SLOT or WIDTH (0 .. 3), or n is above 60");
         int[][] unknown = {{-1, 0, 2}, {4, 0, 2}, {0, -1, 2}, {0, 4, 2}, {0, 0, 61}, {LEAST, 0, 2}, {GREATEST, 0, 2},

@@ -22,6 +22,7 @@ public final class BoundaryTermsTest extends Asking {
         numberedAsTheyStand();
         blanksAndBytes();
         longestTokens();
+        words();
         placesOfFaults();
         textsCutOff();
         forceAndWeight();
@@ -294,6 +295,28 @@ public final class BoundaryTermsTest extends Asking {
         refused(1, 48, HEAD + "house 00;");
     }
 
+    /** Each word of a line with one letter that is another one, one letter more, and one less. */
+    private static void words() {
+        says("I: FAULT 1: a TOKEN that can't stand there, letter by letter");
+        String text = HEAD + "house 0 0;shelter 1 1;thing weighs 0 at 2 2 for 0;wind 0 1 at 0;";
+        Matcher m = Pattern.compile("[a-z]+").matcher(text);
+        while (m.find()) {
+            String ahead = text.substring(0, m.start());
+            String behind = text.substring(m.end());
+            for (int i = 0; i < m.group().length(); i++) {
+                char other = m.group().charAt(i) == 'q' ? 'r' : 'q';
+                refused(1, m.start(), ahead + m.group().substring(0, i) + other + m.group().substring(i + 1) + behind);
+                refused(1, m.start(), ahead + m.group().substring(0, i) + m.group().substring(i + 1) + behind);
+                refused(1, m.start(), ahead + m.group().substring(0, i) + other + m.group().substring(i) + behind);
+                // A letter of the other case is no letter: what stands ahead of it is a word that can't stand there.
+                refused(1, m.start(), ahead + m.group().substring(0, i) + Character.toUpperCase(m.group().charAt(i))
+                        + m.group().substring(i + 1) + behind);
+            }
+            refused(1, m.start(), ahead + m.group() + "s" + behind);
+            refused(1, m.start(), ahead + behind.replaceFirst("^ ", ""));
+        }
+    }
+
     private static long[] firstCounts(WindSigned w) {
         return of(w.count(0), w.count(1), w.count(2), w.count(3), w.count(4));
     }
@@ -447,19 +470,29 @@ public final class BoundaryTermsTest extends Asking {
     }
 
     private static void atTheEdge() {
-        int[][] sizes = {{2, 2}, {3, 2}, {2, 9}, {9, 9}};
-        for (int[] size : sizes) {
-            for (int d = 0; d < 4; d++) {
-                int x = d == 1 ? size[0] - 1 : 0;
-                int y = d == 2 ? size[1] - 1 : 0;
-                int around = d % 2 == 0 ? 10 * x + size[1] - 1 - y : 10 * (size[0] - 1 - x) + y;
-                int[] back = {10 * x + 1, 10 * (x - 1) + y, 10 * x + y - 1, 10 + y};
-                for (int law = 0; law < 4; law++) {
-                    says("II: from a cell at the edge it goes on by LAW " + law);
-                    String text = "plain days 2 law " + law + " odds 5 wide " + size[0] + " high " + size[1]
-                            + ";house 0 0;thing weighs 30 at " + x + " " + y + " for 0;wind " + d + " 31 at 0;";
-                    goes(new int[] {10 * x + y, -1, around, back[d]}[law], law == 0 ? 0 : 1, text);
+        for (int[] size : new int[][] {{2, 2}, {4, 3}, {3, 9}}) {
+            for (int law = 0; law < 4; law++) {
+                says("II: from a cell at the edge it goes on by LAW " + law + ", from others in DIRECTION");
+                for (int d = 0; d < 4; d++) {
+                    oneStepFromEachCell(size[0], size[1], law, d);
                 }
+            }
+        }
+    }
+
+    private static void oneStepFromEachCell(int wide, int high, int law, int d) {
+        int dx = d == 1 ? 1 : d == 3 ? -1 : 0;
+        int dy = d == 2 ? 1 : d == 0 ? -1 : 0;
+        for (int x = 0; x < wide; x++) {
+            for (int y = 0; y < high; y++) {
+                boolean isInside = x + dx >= 0 && x + dx < wide && y + dy >= 0 && y + dy < high;
+                int ahead = 10 * (x + dx) + y + dy;
+                int around = 10 * ((x + dx + wide) % wide) + (y + dy + high) % high;
+                int back = 10 * (x - dx) + y - dy;
+                int[] beyond = {10 * x + y, -1, around, back};
+                String text = "plain days 2 law " + law + " odds 5 wide " + wide + " high " + high
+                        + ";house 0 0;thing weighs 30 at " + x + " " + y + " for 0;wind " + d + " 31 at 0;";
+                goes(isInside ? ahead : beyond[law], isInside || law != 0 ? 1 : 0, text);
             }
         }
     }
