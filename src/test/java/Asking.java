@@ -5,6 +5,9 @@ import java.util.List;
 
 /** What tests with answers worked out by hand have in common: answers due, texts told, what is seen of an object. */
 abstract class Asking {
+    /** As many of each as there may be: 6 houses, 8 shelters, 6 things, 9 winds. */
+    static final String FULL = full();
+
     private static int asked = 0;
     private static int wrong = 0;
     private static String sentence = "";
@@ -82,6 +85,24 @@ abstract class Asking {
     static long[] guesses(WindSigned w, int slot, int thing) {
         return of(w.weights(slot, thing), w.least(slot, thing), w.greatest(slot, thing), w.ask(slot, thing),
                 w.leaves(slot, thing), w.laws(slot, thing));
+    }
+
+    private static String full() {
+        StringBuilder text = new StringBuilder("plain days 14 law 3 odds 10 wide 9 high 9;");
+        for (int i = 0; i < 6; i++) {
+            text.append("house ").append(i).append(" 8;");
+        }
+        for (int i = 0; i < 8; i++) {
+            text.append("shelter ").append(i).append(" 7;");
+        }
+        for (int i = 0; i < 6; i++) {
+            text.append("thing weighs ").append(30 - i).append(" at 8 ").append(i).append(" for ").append(i);
+            text.append(';');
+        }
+        for (int i = 0; i < 9; i++) {
+            text.append("wind ").append(i % 4).append(' ').append(40 - i).append(" at ").append(13 - i).append(';');
+        }
+        return text.toString();
     }
 
     /** What questions tell of an object, in so few calls that an object can be asked thrice in its 512. */

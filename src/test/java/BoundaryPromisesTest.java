@@ -12,8 +12,6 @@ public final class BoundaryPromisesTest extends Asking {
     private static final String SMALL = "plain days 1 law 1 odds 0 wide 2 high 2;house 0 0;house 1 1;shelter 1 0;"
             + "thing weighs 0 at 0 1 for 0;wind 0 1 at 0;";
 
-    private static final String FULL = full();
-
     private static final String BARE = "plain days 1 law 0 odds 0 wide 2 high 2;";
 
     private static final int LEAST = Integer.MIN_VALUE;
@@ -64,23 +62,6 @@ public final class BoundaryPromisesTest extends Asking {
         seeds();
         questionsChangeNothing();
         finish("BoundaryPromisesTest");
-    }
-
-    private static String full() {
-        StringBuilder text = new StringBuilder("plain days 14 law 3 odds 10 wide 9 high 9;");
-        for (int i = 0; i < 6; i++) {
-            text.append("house ").append(i).append(" 8;");
-        }
-        for (int i = 0; i < 8; i++) {
-            text.append("shelter ").append(i).append(" 7;");
-        }
-        for (int i = 0; i < 6; i++) {
-            text.append("thing weighs ").append(30 - i).append(" at 8 ").append(i).append(" for ").append(i).append(';');
-        }
-        for (int i = 0; i < 9; i++) {
-            text.append("wind ").append(i % 4).append(' ').append(40 - i).append(" at ").append(13 - i).append(';');
-        }
-        return text.toString();
     }
 
     private static void promise(int number, String what) {

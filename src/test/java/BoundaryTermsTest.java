@@ -9,9 +9,6 @@ import java.util.regex.Pattern;
 public final class BoundaryTermsTest extends Asking {
     private static final String HEAD = "plain days 3 law 0 odds 5 wide 4 high 3;";
 
-    /** As many of each as there may be: 6 houses, 8 shelters, 6 things, 9 winds. */
-    private static final String FULL = full();
-
     public static void main(String[] args) {
         firstLine();
         numbersOfTheFirstLine();
@@ -189,23 +186,6 @@ public final class BoundaryTermsTest extends Asking {
         bounds(HEAD + "wind 0 1 at ", 0, 13, ";", w -> w.wind(0, 2));
         bounds(HEAD.replace("days 3", "days 1") + "wind 0 1 at ", 0, 13, ";", w -> w.wind(0, 2));
         bounds(HEAD.replace("days 3", "days 14") + "wind 0 1 at ", 0, 13, ";", w -> w.wind(0, 2));
-    }
-
-    private static String full() {
-        StringBuilder text = new StringBuilder("plain days 14 law 3 odds 10 wide 9 high 9;");
-        for (int i = 0; i < 6; i++) {
-            text.append("house ").append(i).append(" 8;");
-        }
-        for (int i = 0; i < 8; i++) {
-            text.append("shelter ").append(i).append(" 7;");
-        }
-        for (int i = 0; i < 6; i++) {
-            text.append("thing weighs ").append(30 - i).append(" at 8 ").append(i).append(" for ").append(i).append(';');
-        }
-        for (int i = 0; i < 9; i++) {
-            text.append("wind ").append(i % 4).append(' ').append(40 - i).append(" at ").append(13 - i).append(';');
-        }
-        return text.toString();
     }
 
     private static void howMany() {

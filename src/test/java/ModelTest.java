@@ -230,22 +230,24 @@ public final class ModelTest {
         StringBuilder s = new StringBuilder();
         s.append("plain days ").append(days).append(" law ").append(random.nextInt(4)).append(" odds ").append(odds);
         s.append(" wide ").append(wide).append(" high ").append(high).append(";");
-        int houses = random.nextInt(12) == 0 ? 0 : 1 + random.nextInt(random.nextInt(30) == 0 ? 8 : 4);
+        // Now and then as many of each kind as there may be.
+        boolean isFull = random.nextInt(16) == 0;
+        int houses = isFull ? 6 : random.nextInt(12) == 0 ? 0 : 1 + random.nextInt(random.nextInt(30) == 0 ? 8 : 4);
         List<String> lines = new ArrayList<>();
         for (int i = 0; i < houses; i++) {
             s.append(blank()).append("house ").append(freshCell(i)).append(";");
         }
-        int shelters = random.nextInt(random.nextInt(30) == 0 ? 10 : 6);
+        int shelters = isFull ? 8 : random.nextInt(random.nextInt(30) == 0 ? 10 : 6);
         for (int i = 0; i < shelters; i++) {
             lines.add("shelter " + freshCell(i + 7) + ";");
         }
-        int things = random.nextInt(8) == 0 ? 0 : 1 + random.nextInt(random.nextInt(30) == 0 ? 8 : 4);
+        int things = isFull ? 6 : random.nextInt(8) == 0 ? 0 : 1 + random.nextInt(random.nextInt(30) == 0 ? 8 : 4);
         for (int i = 0; i < things && houses > 0; i++) {
             int weight = random.nextInt(random.nextBoolean() ? 31 : 12);
             lines.add("thing weighs " + weight + " at " + random.nextInt(wide) + " " + random.nextInt(high) + " for "
                     + random.nextInt(houses) + ";");
         }
-        int winds = random.nextInt(random.nextInt(10) == 0 ? 12 : 7);
+        int winds = isFull ? 9 : random.nextInt(random.nextInt(10) == 0 ? 12 : 7);
         for (int i = 0; i < winds; i++) {
             int day = random.nextInt(random.nextInt(8) == 0 ? 14 : days);
             lines.add("wind " + random.nextInt(4) + " " + (1 + random.nextInt(40)) + " at " + day + ";");
