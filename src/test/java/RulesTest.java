@@ -35,6 +35,7 @@ public final class RulesTest {
                     && !Modifier.isProtected(c.getModifiers()), "rules 1, 2: " + c);
         }
         String source = Files.readString(Path.of("src/main/java/WindSigned.java"));
+        faceOfTheDocument(source);
         words(source);
         lengths(source);
         room();
@@ -88,6 +89,29 @@ public final class RulesTest {
         check(made.length == 1 && made[0].getParameterCount() == 0 && Modifier.isPublic(made[0].getModifiers()),
                 "rule 1: the constructor");
         check(Modifier.isFinal(WindSigned.class.getField("NONE").getModifiers()) && WindSigned.NONE == -1, "NONE");
+    }
+
+    /** Line by line as the document writes it, with the names of parameters, and nothing public beside it. */
+    private static void faceOfTheDocument(String source) throws Exception {
+        String document = Files.readString(Path.of("../shared/DOC.md"));
+        String block = document.substring(document.indexOf("```java\n") + 8);
+        List<String> due = new ArrayList<>();
+        for (String line : block.substring(0, block.indexOf("```")).split("\n")) {
+            if (line.contains("public ")) {
+                due.add(line.replaceAll(" *[;{]$", ""));
+            }
+        }
+        check(due.size() == 1 + 1 + 1 + faceNames().size(), "the document's face has " + due.size() + " lines");
+        List<String> found = new ArrayList<>();
+        for (String line : source.split("\n")) {
+            if (line.contains("public ")) {
+                found.add(line.replaceAll(" *[;{]$", ""));
+            }
+        }
+        for (String line : due) {
+            check(found.remove(line), "the document's face has: " + line);
+        }
+        check(found.isEmpty(), "the document's face does not have: " + found);
     }
 
     private static void members(Class<?> c) {
